@@ -6,6 +6,8 @@ public final class GapHouse {
     public static final int UNKNOWN = -101, OUTSIDE = -102, STATE = -103, ROOM = -104, NONE = -109;
 
     private static final long LIMIT = 1000000000000L;
+    private static final long LEAST = 0x8000000000000000L;
+    private static final long GREATEST = 0x7fffffffffffffffL;
     private static final int SERIES = 2;
     private static final int SEGMENTS = 6;
     private static final int ROWS = 16;
@@ -922,14 +924,14 @@ public final class GapHouse {
             }
             int exponent = exponentOf(a);
             if (exponent > 10) {
-                return a < 0 ? Long.MIN_VALUE : Long.MAX_VALUE;
+                return a < 0 ? LEAST : GREATEST;
             }
             long size = exponent >= 0 ? figureOf(a) << exponent : exponent < -63 ? 0 : figureOf(a) >>> -exponent;
             return a < 0 ? -size : size;
         }
 
         private static int toInt(long a) {
-            return (int) Math.max(Integer.MIN_VALUE, Math.min(Integer.MAX_VALUE, toLong(a)));
+            return (int) Math.max(-0x80000000L, Math.min(0x7fffffffL, toLong(a)));
         }
 
         /** What comes out of an ARRAY of a KIND when v was stored there. */
@@ -1098,7 +1100,7 @@ public final class GapHouse {
             } else if (act == Reckoner.REMAIN) {
                 setWhole(b == -1 ? 0 : a % b);
             } else {
-                setUnless(a == Long.MIN_VALUE && b == -1, a / b);
+                setUnless(a == LEAST && b == -1, a / b);
             }
         }
 
@@ -1107,7 +1109,7 @@ public final class GapHouse {
                 return false;
             }
             if (b == -1) {
-                return a == Long.MIN_VALUE;
+                return a == LEAST;
             }
             return a * b / b != a;
         }
@@ -1153,7 +1155,7 @@ public final class GapHouse {
 
         private void applyToWhole(int act) {
             if (act == Reckoner.NEGATE || (act == Reckoner.ABSOLUTE && bits < 0)) {
-                setUnless(bits == Long.MIN_VALUE, -bits);
+                setUnless(bits == LEAST, -bits);
             } else if (act == Reckoner.SIGN_OF) {
                 setWhole(Long.compare(bits, 0));
             }
