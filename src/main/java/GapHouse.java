@@ -422,6 +422,7 @@ public final class GapHouse {
         lastWay = chosenWay(asked);
         giver.forget();
         table.begin(held, asked);
+        table.loadColumns();
         table.joinRows();
         table.workLets();
         table.workFills();
@@ -711,12 +712,12 @@ public final class GapHouse {
             return sign | (((long) (scale - LOWEST) << 52) + kept);
         }
 
-        static long ofWhole(long whole, boolean single) {
-            return whole < 0 ? nearest(SIGN, -whole, 0, single) : nearest(0, whole, 0, single);
+        static long ofWhole(long whole) {
+            return whole < 0 ? nearest(SIGN, -whole, 0, false) : nearest(0, whole, 0, false);
         }
 
-        static long ofWhole(long whole) {
-            return ofWhole(whole, false);
+        private static long singleOfWhole(long whole) {
+            return whole < 0 ? nearest(SIGN, -whole, 0, true) : nearest(0, whole, 0, true);
         }
 
         static long thousandths(long whole) {
@@ -775,10 +776,6 @@ public final class GapHouse {
             }
             long lost = figure & ((1L << by) - 1);
             return figure >>> by | (lost == 0 ? 0 : 1);
-        }
-
-        static long subtract(long a, long b) {
-            return isNone(b) ? NO_NUMBER : add(a, b ^ SIGN);
         }
 
         static long multiply(long a, long b) {
@@ -854,6 +851,26 @@ public final class GapHouse {
             return nearest(a & SIGN, rest, exponentOf(b), false);
         }
 
+        /** An act of two, by its number. */
+        static long reckoned(int act, long a, long b) {
+            switch (act) {
+                case Reckoner.ADD:
+                    return add(a, b);
+                case Reckoner.SUBTRACT:
+                    return add(a, negative(b));
+                case Reckoner.MULTIPLY:
+                    return multiply(a, b);
+                case Reckoner.DIVIDE:
+                    return divide(a, b);
+                case Reckoner.REMAIN:
+                    return remain(a, b);
+                case Reckoner.LESSER:
+                    return lesser(a, b);
+                default:
+                    return greater(a, b);
+            }
+        }
+
         /** Numbers in the order of their bits: -0.0 stands below 0.0 here. */
         private static long rank(long a) {
             return a ^ (a >> 63 & SIZE);
@@ -911,7 +928,7 @@ public final class GapHouse {
             if (size >= ALL_WHOLE) {
                 return a;
             }
-            return a & SIGN | subtract(add(size, ALL_WHOLE), ALL_WHOLE);
+            return a & SIGN | add(add(size, ALL_WHOLE), ALL_WHOLE | SIGN);
         }
 
         static long signOf(long a) {
@@ -951,9 +968,9 @@ public final class GapHouse {
                 case INTS:
                     return (int) v;
                 case FLOATS:
-                    return ofWhole(v, true);
+                    return singleOfWhole(v);
                 case DOUBLES:
-                    return ofWhole(v, false);
+                    return ofWhole(v);
                 default:
                     return v;
             }
@@ -1028,7 +1045,11 @@ public final class GapHouse {
 
         /** Below 0, 0, above 0; both hold NUMBERS that are not IMPOSSIBLE. */
         int compareWith(Cell other) {
-            return real || other.real ? Real.compare(asReal(), other.asReal()) : Long.compare(bits, other.bits);
+            if (!real && !other.real) {
+                return Long.compare(bits, other.bits);
+            }
+            long own = real ? bits : Real.ofWhole(bits);
+            return Real.compare(own, other.real ? other.bits : Real.ofWhole(other.bits));
         }
 
         /** An act of two: this one becomes what comes out. */
@@ -1038,35 +1059,9 @@ public final class GapHouse {
             } else if (!isNumber()) {
                 setEmpty(sort);
             } else if (real || right.real) {
-                combineReals(act, asReal(), right.asReal());
+                setReal(Real.reckoned(act, asReal(), right.asReal()));
             } else {
                 combineWholes(act, bits, right.bits);
-            }
-        }
-
-        private void combineReals(int act, long a, long b) {
-            switch (act) {
-                case Reckoner.ADD:
-                    setReal(Real.add(a, b));
-                    break;
-                case Reckoner.SUBTRACT:
-                    setReal(Real.subtract(a, b));
-                    break;
-                case Reckoner.MULTIPLY:
-                    setReal(Real.multiply(a, b));
-                    break;
-                case Reckoner.DIVIDE:
-                    setReal(Real.divide(a, b));
-                    break;
-                case Reckoner.REMAIN:
-                    setReal(Real.remain(a, b));
-                    break;
-                case Reckoner.LESSER:
-                    setReal(Real.lesser(a, b));
-                    break;
-                default:
-                    setReal(Real.greater(a, b));
-                    break;
             }
         }
 
@@ -1115,11 +1110,7 @@ public final class GapHouse {
         }
 
         private void setUnless(boolean tooGreat, long value) {
-            if (tooGreat) {
-                setEmpty(OVERFLOW);
-            } else {
-                setWhole(value);
-            }
+            hold(tooGreat ? OVERFLOW : NUMBER, tooGreat ? 0 : value, false);
         }
 
         /** An act of one. */
@@ -1819,7 +1810,12 @@ public final class GapHouse {
             for (int turn = 0; turn <= FILLS && isWord(Tokens.FILL); turn++) {
                 fillClause();
             }
-            whereClause();
+            query.condition = query.code.size;
+            if (takeWord(Tokens.WHERE)) {
+                condition();
+                needSign(';');
+                simple = false;
+            }
             shapeClause();
             giveClause();
             if (type() != Tokens.END) {
@@ -1872,11 +1868,11 @@ public final class GapHouse {
         }
 
         private boolean isWord(int word) {
-            return fault == 0 && type() == Tokens.WORD && value() == word;
+            return fault == 0 && tokens.types[at] == Tokens.WORD && tokens.values[at] == word;
         }
 
         private boolean isSign(int sign) {
-            return fault == 0 && type() == Tokens.SIGN && value() == sign;
+            return fault == 0 && tokens.types[at] == Tokens.SIGN && tokens.values[at] == sign;
         }
 
         private boolean takeWord(int word) {
@@ -1937,15 +1933,13 @@ public final class GapHouse {
         }
 
         private int needName() {
-            if (type() != Tokens.NAME) {
-                fail(CAN_NOT_STAND);
-            } else if (!isKnownName()) {
-                fail(NO_SUCH_NAME);
+            int name = type() == Tokens.NAME ? resolve(value()) : -1;
+            if (name < 0) {
+                fail(type() == Tokens.NAME ? NO_SUCH_NAME : CAN_NOT_STAND);
             }
             if (fault != 0) {
                 return 0;
             }
-            int name = resolve(value());
             Column column = store.columnAt(name);
             if (column != null) {
                 query.reads |= column.over;
@@ -2069,15 +2063,6 @@ public final class GapHouse {
                 step();
             } else {
                 query.fills.values[fill] = needWhole(minus, -LIMIT, LIMIT);
-            }
-        }
-
-        private void whereClause() {
-            query.condition = query.code.size;
-            if (takeWord(Tokens.WHERE)) {
-                condition();
-                needSign(';');
-                simple = false;
             }
         }
 
@@ -2307,7 +2292,10 @@ public final class GapHouse {
                 case Tokens.REAL:
                     return literal();
                 case Tokens.NAME:
-                    return nameInExpression();
+                    int start = here();
+                    int name = needName();
+                    bare = query.code.add(Reckoner.FETCH, name, start);
+                    return isReal(name);
                 case Tokens.WORD:
                     return function((int) value());
                 default:
@@ -2322,13 +2310,6 @@ public final class GapHouse {
             query.code.reals[code] = real;
             step();
             return real;
-        }
-
-        private boolean nameInExpression() {
-            int start = here();
-            int name = needName();
-            bare = query.code.add(Reckoner.FETCH, name, start);
-            return isReal(name);
         }
 
         private boolean negated() {
@@ -2419,11 +2400,11 @@ public final class GapHouse {
         }
 
         private void test() {
+            int start = here();
             if (fault != 0) {
                 return;
             }
             if (isWord(Tokens.NOT)) {
-                int start = here();
                 deepen();
                 takeOperator();
                 test();
@@ -2438,7 +2419,16 @@ public final class GapHouse {
             } else if (isNameWithIs()) {
                 sortTest();
             } else {
-                relation();
+                expression();
+                int left = bare;
+                int place = here();
+                int how = takeRelation();
+                expression();
+                if (how != Reckoner.ALIKE && how != Reckoner.UNLIKE) {
+                    wantOrder(left);
+                    wantOrder(bare);
+                }
+                addAct(how, place);
             }
         }
 
@@ -2461,21 +2451,13 @@ public final class GapHouse {
             query.code.values[code] = wanted;
         }
 
-        private void relation() {
-            expression();
-            int left = bare;
-            int start = here();
+        private int takeRelation() {
             int how = relationHere();
             if (how < 0) {
                 fail(CAN_NOT_STAND);
             }
             takeOperator();
-            expression();
-            if (how != Reckoner.ALIKE && how != Reckoner.UNLIKE) {
-                wantOrder(left);
-                wantOrder(bare);
-            }
-            addAct(how, start);
+            return how;
         }
 
         private int relationHere() {
@@ -2549,12 +2531,7 @@ public final class GapHouse {
             for (int series = 0; series < SERIES; series++) {
                 orderRows(series);
             }
-            for (int i = 0; i < COLUMNS; i++) {
-                slotOf[i] = -1;
-                if ((query.reads >> i & 1) == 1) {
-                    loadColumn(i);
-                }
-            }
+            Arrays.fill(slotOf, -1);
             for (int i = 0; i < LETS; i++) {
                 slotOf[COLUMNS + i] = i;
                 slotReals[i] = query.lets.reals[i];
@@ -2599,13 +2576,16 @@ public final class GapHouse {
         }
 
         /** FINDINGS are kept like other sorts here: they count only once they are met. */
-        private void loadColumn(int number) {
-            int series = store.columns[number].series;
-            for (int i = 0; i < lineSizes[series]; i++) {
-                int at = lines[series * LINE + i];
-                store.readCell(number, at, query.known, mine);
-                columnSorts[number * LINE + at] = mine.sort;
-                columnBits[number * LINE + at] = mine.bits;
+        void loadColumns() {
+            for (int i = 0; i < LINE * COLUMNS; i++) {
+                int number = i / LINE;
+                Column column = (query.reads >> number & 1) == 1 ? store.columnAt(number) : null;
+                if (column != null && i % LINE < lineSizes[column.series]) {
+                    int at = lines[column.series * LINE + i % LINE];
+                    store.readCell(number, at, query.known, mine);
+                    columnSorts[number * LINE + at] = mine.sort;
+                    columnBits[number * LINE + at] = mine.bits;
+                }
             }
         }
 
@@ -2617,13 +2597,14 @@ public final class GapHouse {
         // ---- join
 
         void joinRows() {
-            int size = liveSize;
-            if (query.link == Query.ON) {
-                size = joinAlike();
-            } else {
-                for (int i = 0; i < liveSize; i++) {
+            int size = 0;
+            for (int i = 0; i < liveSize && finding == 0; i++) {
+                if (query.link == Query.ON) {
+                    size = joinAlike(live[i], size);
+                } else {
                     used[i] = live[i];
                     other[i] = query.link == Query.NEAR ? nearest(live[i]) : -1;
+                    size = i + 1;
                 }
             }
             liveSize = size;
@@ -2632,24 +2613,16 @@ public final class GapHouse {
             }
         }
 
-        private int joinAlike() {
-            int size = 0;
-            int left = query.linked.names[0];
-            for (int i = 0; i < liveSize && finding == 0; i++) {
-                loadFrom(left, live[i], mine);
-                if (mine.sort < 0) {
-                    fail(mine.sort, query.linked.places[0]);
-                } else if (mine.sort == NUMBER) {
-                    size = joinOne(live[i], size);
-                }
+        /** Joins a ROW with all that are alike: how many joined ones there are then. */
+        private int joinAlike(int row, int before) {
+            loadFrom(query.linked.names[0], row, mine);
+            if (mine.sort < 0) {
+                fail(mine.sort, query.linked.places[0]);
             }
-            return size;
-        }
-
-        private int joinOne(int row, int before) {
             int size = before;
             int series = 1 - query.series;
-            for (int i = 0; i < lineSizes[series] && finding == 0; i++) {
+            int others = mine.sort == NUMBER ? lineSizes[series] : 0;
+            for (int i = 0; i < others && finding == 0; i++) {
                 int at = lines[series * LINE + i];
                 loadFrom(query.linked.names[1], at, theirs);
                 if (theirs.sort < 0) {
@@ -2839,8 +2812,9 @@ public final class GapHouse {
             if (m == n) {
                 return v;
             }
-            long share = Real.divide(Real.subtract(Real.ofWhole(momentOf(row)), m), Real.subtract(n, m));
-            return Real.add(v, Real.multiply(Real.subtract(w, v), share));
+            long since = Real.add(Real.ofWhole(momentOf(row)), Real.negative(m));
+            long share = Real.divide(since, Real.add(n, Real.negative(m)));
+            return Real.add(v, Real.multiply(Real.add(w, Real.negative(v)), share));
         }
 
         void filterRows() {
@@ -3261,20 +3235,14 @@ public final class GapHouse {
             } else if (how == Tokens.DIFF) {
                 table.fetch(parts.names[j], table.live[i - 1], ahead);
                 out.combine(Reckoner.SUBTRACT, ahead);
-            } else if (how == Tokens.CUM) {
-                addUp(totals[j], reals[j]);
+            } else if (how == Tokens.CUM && out.isAbsent()) {
+                totals[j].hold(NUMBER, 0, reals[j]);
+            } else if (how == Tokens.CUM && out.isNumber()) {
+                totals[j].combine(Reckoner.ADD, out);
+                out.hold(totals[j].sort, totals[j].bits, totals[j].real);
             }
             if (out.sort < 0) {
                 table.fail(out.sort, parts.wordPlaces[j]);
-            }
-        }
-
-        private void addUp(Cell total, boolean isReal) {
-            if (out.isNumber()) {
-                total.combine(Reckoner.ADD, out);
-                out.hold(total.sort, total.bits, total.real);
-            } else {
-                total.hold(NUMBER, 0, isReal);
             }
         }
 
@@ -3301,7 +3269,12 @@ public final class GapHouse {
                 table.readName(parts.names[j], groups.members[from], parts.places[j], out);
             } else {
                 collect(table, groups, parts.names[j], from, to, parts.places[j]);
-                if (table.finding == 0) {
+                if (wantsOrder(how)) {
+                    sortNumbers();
+                }
+                if (isReckonedByReals(how) || (how == Tokens.SUM && real)) {
+                    reckonReals(how);
+                } else {
                     summarise(how, (int) parts.values[j]);
                 }
                 if (out.sort < 0) {
@@ -3340,49 +3313,64 @@ public final class GapHouse {
         }
 
         private void summarise(int how, int share) {
-            switch (how) {
-                case Tokens.COUNT:
-                    out.setWhole(counts[NUMBER]);
-                    return;
-                case Tokens.MISSING_WORD:
-                case Tokens.BEYOND_WORD:
-                case Tokens.OTHER_WORD:
-                case Tokens.IMPOSSIBLE_WORD:
-                    // These words stand in the order of the sorts.
-                    out.setWhole(counts[how - Tokens.THERE]);
-                    return;
-                default:
-                    break;
-            }
-            if (wantsOrder(how)) {
-                sortNumbers();
-            }
-            if (size == 0) {
+            if (how == Tokens.COUNT) {
+                out.setWhole(counts[NUMBER]);
+            } else if (isWithin(how, Tokens.MISSING_WORD, Tokens.IMPOSSIBLE_WORD)) {
+                // These words stand in the order of the sorts.
+                out.setWhole(counts[how - Tokens.THERE]);
+            } else if (size == 0) {
                 out.setEmpty(MISSING);
+            } else if (how == Tokens.MEDIAN) {
+                giveMedian();
             } else if (wantsOrder(how)) {
                 pick(how, share);
             } else if (how == Tokens.FIRST || how == Tokens.LAST) {
                 out.setNumber(numbers[how == Tokens.FIRST ? 0 : size - 1], real);
-            } else if (how == Tokens.SUM && !real) {
-                sumWholes();
             } else {
-                makeReal();
-                out.setReal(realSummary(how));
+                sumWholes();
             }
         }
 
-        private long realSummary(int how) {
+        private static boolean isReckonedByReals(int how) {
+            switch (how) {
+                case Tokens.KSUM:
+                case Tokens.MEAN:
+                case Tokens.VAR:
+                case Tokens.SLOPE:
+                case Tokens.BASE:
+                    return true;
+                default:
+                    return false;
+            }
+        }
+
+        private void reckonReals(int how) {
+            if (size == 0) {
+                out.setEmpty(MISSING);
+                return;
+            }
+            makeReal();
+            long sum = 0;
+            for (int i = 0; i < size; i++) {
+                sum = Real.add(sum, numbers[i]);
+            }
+            long mean = Real.divide(sum, Real.ofWhole(size));
             switch (how) {
                 case Tokens.SUM:
-                    return sumReals();
+                    out.setReal(sum);
+                    break;
                 case Tokens.KSUM:
-                    return carefulSum();
+                    out.setReal(carefulSum());
+                    break;
                 case Tokens.MEAN:
-                    return mean();
+                    out.setReal(mean);
+                    break;
                 case Tokens.VAR:
-                    return variance();
+                    out.setReal(variance(mean));
+                    break;
                 default:
-                    return lineThrough(how == Tokens.SLOPE);
+                    out.setReal(lineThrough(how == Tokens.SLOPE));
+                    break;
             }
         }
 
@@ -3409,14 +3397,6 @@ public final class GapHouse {
             }
         }
 
-        private long sumReals() {
-            long sum = 0;
-            for (int i = 0; i < size; i++) {
-                sum = Real.add(sum, numbers[i]);
-            }
-            return sum;
-        }
-
         private long carefulSum() {
             long s = 0;
             long c = 0;
@@ -3424,22 +3404,18 @@ public final class GapHouse {
                 long x = numbers[i];
                 long t = Real.add(s, x);
                 boolean less = Real.compare(Real.size(s), Real.size(x)) < 0;
-                long lost = less ? Real.add(Real.subtract(x, t), s) : Real.add(Real.subtract(s, t), x);
+                long great = less ? x : s;
+                long lost = Real.add(Real.add(great, Real.negative(t)), less ? s : x);
                 c = Real.add(c, lost);
                 s = t;
             }
             return Real.add(s, c);
         }
 
-        private long mean() {
-            return Real.divide(sumReals(), Real.ofWhole(size));
-        }
-
-        private long variance() {
-            long mean = mean();
+        private long variance(long mean) {
             long sum = 0;
             for (int i = 0; i < size; i++) {
-                long off = Real.subtract(numbers[i], mean);
+                long off = Real.add(numbers[i], Real.negative(mean));
                 sum = Real.add(sum, Real.multiply(off, off));
             }
             return Real.divide(sum, Real.ofWhole(size));
@@ -3459,13 +3435,13 @@ public final class GapHouse {
                 sumXx = Real.add(sumXx, Real.multiply(x, x));
             }
             long n = Real.ofWhole(size);
-            long over = Real.subtract(Real.multiply(n, sumXy), Real.multiply(sumX, sumY));
-            long under = Real.subtract(Real.multiply(n, sumXx), Real.multiply(sumX, sumX));
+            long over = Real.add(Real.multiply(n, sumXy), Real.negative(Real.multiply(sumX, sumY)));
+            long under = Real.add(Real.multiply(n, sumXx), Real.negative(Real.multiply(sumX, sumX)));
             long slope = Real.divide(over, under);
             if (slopeAlone) {
                 return slope;
             }
-            return Real.divide(Real.subtract(sumY, Real.multiply(slope, sumX)), n);
+            return Real.divide(Real.add(sumY, Real.negative(Real.multiply(slope, sumX))), n);
         }
 
         // ---- by rank
@@ -3503,10 +3479,6 @@ public final class GapHouse {
         }
 
         private void pick(int how, int share) {
-            if (how == Tokens.MEDIAN) {
-                giveMedian();
-                return;
-            }
             int at = 0;
             if (how == Tokens.QUANT) {
                 at = Math.max((share * size + 99) / 100, 1) - 1;
@@ -3520,10 +3492,13 @@ public final class GapHouse {
         }
 
         private void giveMedian() {
-            makeReal();
-            long upper = numbers[size / 2];
-            long both = size % 2 == 1 ? upper : Real.divide(Real.add(numbers[size / 2 - 1], upper), Real.TWO);
-            out.setReal(both);
+            long upper = real ? numbers[size / 2] : Real.ofWhole(numbers[size / 2]);
+            if (size % 2 == 1) {
+                out.setReal(upper);
+                return;
+            }
+            long lower = real ? numbers[size / 2 - 1] : Real.ofWhole(numbers[size / 2 - 1]);
+            out.setReal(Real.divide(Real.add(lower, upper), Real.TWO));
         }
     }
 }
