@@ -2287,20 +2287,19 @@ public final class GapHouse {
             if (fault != 0) {
                 return false;
             }
-            switch (type()) {
-                case Tokens.WHOLE:
-                case Tokens.REAL:
-                    return literal();
-                case Tokens.NAME:
-                    int start = here();
-                    int name = needName();
-                    bare = query.code.add(Reckoner.FETCH, name, start);
-                    return isReal(name);
-                case Tokens.WORD:
-                    return function((int) value());
-                default:
-                    return isSign('-') ? negated() : bracketed();
+            if (type() == Tokens.NAME) {
+                int start = here();
+                int name = needName();
+                bare = query.code.add(Reckoner.FETCH, name, start);
+                return isReal(name);
             }
+            if (type() == Tokens.WHOLE || type() == Tokens.REAL) {
+                return literal();
+            }
+            if (type() == Tokens.WORD) {
+                return function((int) value());
+            }
+            return isSign('-') ? negated() : bracketed();
         }
 
         private boolean literal() {

@@ -55,20 +55,26 @@ public final class AgainstOracleTest {
         return n;
     }
 
+    /** Any number at all, those at the ends of the machine's more often. */
+    private int extreme() {
+        int[] ends = {Integer.MIN_VALUE, Integer.MAX_VALUE, Integer.MIN_VALUE + 1, -1, 6, 16, 65536, random.nextInt()};
+        return ends[random.nextInt(ends.length)];
+    }
+
     private int series() {
-        return chance(99) ? random.nextInt(2) : random.nextInt(5) - 1;
+        return chance(99) ? random.nextInt(2) : extreme();
     }
 
     private int seg() {
-        return chance(97) ? random.nextInt(Math.max(1, Math.max(oracle.count(0), oracle.count(1)))) : random.nextInt(9) - 1;
+        return chance(97) ? random.nextInt(Math.max(1, Math.max(oracle.count(0), oracle.count(1)))) : chance(50) ? random.nextInt(9) - 1 : extreme();
     }
 
     private int col() {
-        return chance(98) ? random.nextInt(Math.max(1, oracle.count(4))) : random.nextInt(20) - 2;
+        return chance(98) ? random.nextInt(Math.max(1, oracle.count(4))) : chance(50) ? random.nextInt(20) - 2 : extreme();
     }
 
     private int row() {
-        return chance(97) ? random.nextInt(8) : random.nextInt(20) - 1;
+        return chance(97) ? random.nextInt(8) : chance(50) ? random.nextInt(20) - 1 : extreme();
     }
 
     private long name() {
@@ -143,7 +149,7 @@ public final class AgainstOracleTest {
                 b = seg();
                 Oracle.Col of = oracle.col(a);
                 c = of != null && chance(85) ? Math.min(of.sort, 7) : random.nextInt(10) - 1;
-                d = chance(95) ? random.nextInt(17) : random.nextInt(30) - 4;
+                d = chance(95) ? random.nextInt(17) : chance(50) ? random.nextInt(30) - 4 : extreme();
                 due("put(" + a + ", " + b + ", " + c + ", " + d + ")", house.put(a, b, c, d), oracle.put(a, b, c, d));
                 break;
             case 19: case 20: case 21: case 22: case 23: case 24: case 25: case 26:
@@ -191,7 +197,7 @@ public final class AgainstOracleTest {
                 break;
             case 36:
                 if (chance(20)) {
-                    a = random.nextInt(4) - (chance(10) ? 1 : 0);
+                    a = chance(95) ? random.nextInt(4) - (chance(10) ? 1 : 0) : extreme();
                     due("undo(" + a + ")", house.undo(a), oracle.undo(a));
                 }
                 break;
@@ -219,11 +225,11 @@ public final class AgainstOracleTest {
                 due("read(" + a + ", " + b + ", " + c + ", " + n + ")", house.read(a, b, c, n), oracle.read(a, b, c, n));
                 break;
             case 2:
-                c = random.nextInt(4) - 1;
+                c = chance(90) ? random.nextInt(4) - 1 : extreme();
                 due("array(" + a + ", " + b + ", " + c + ")", house.array(a, b, c), oracle.array(a, b, c));
                 break;
             case 3:
-                c = random.nextInt(8) - 1;
+                c = chance(90) ? random.nextInt(8) - 1 : extreme();
                 due("told(" + a + ", " + c + ")", house.told(a, c), oracle.told(a, c));
                 break;
             case 4:
@@ -235,7 +241,7 @@ public final class AgainstOracleTest {
                 due("moment(" + a + ", " + b + ", " + c + ")", house.moment(a, b, c), oracle.moment(a, b, c));
                 break;
             default:
-                a = random.nextInt(12) - 1;
+                a = chance(90) ? random.nextInt(12) - 1 : extreme();
                 due("count(" + a + ")", house.count(a), oracle.count(a));
                 break;
         }
@@ -249,7 +255,7 @@ public final class AgainstOracleTest {
             int[] x = {bb.getInt(), bb.getInt(), bb.getInt(), bb.getInt(), bb.getInt()};
             due("feed", house.feed(x[0], x[1], x[2], x[3], x[4]), oracle.feed(x[0], x[1], x[2], x[3], x[4]));
         }
-        int n = chance(99) ? text.length() : text.length() + random.nextInt(40) - 20;
+        int n = chance(99) ? text.length() : chance(70) ? text.length() + random.nextInt(40) - 20 : extreme();
         due("end(" + n + ")", house.end(n), oracle.end(n));
     }
 
@@ -278,7 +284,7 @@ public final class AgainstOracleTest {
             due("cost(" + query + ", " + way + ")", house.cost(query, way), oracle.cost(query, way));
         }
         if (chance(20)) {
-            int way = chance(80) ? random.nextInt(4) : chance(50) ? Oracle.NONE : random.nextInt(9) - 3;
+            int way = chance(80) ? random.nextInt(4) : chance(50) ? Oracle.NONE : extreme();
             due("force(" + query + ", " + way + ")", house.force(query, way), oracle.force(query, way));
         }
         due("way(" + query + ")", house.way(query), oracle.way(query));
@@ -296,8 +302,8 @@ public final class AgainstOracleTest {
         }
         due("digest()", house.digest(), oracle.digest());
         for (int i = 0; i < 2; i++) {
-            int r = random.nextInt((int) Math.max(1, rows) + 1) - (chance(5) ? 1 : 0);
-            int j = random.nextInt(4) - (chance(5) ? 1 : 0);
+            int r = chance(98) ? random.nextInt((int) Math.max(1, rows) + 1) - (chance(5) ? 1 : 0) : extreme();
+            int j = chance(98) ? random.nextInt(4) - (chance(5) ? 1 : 0) : extreme();
             due("sort(" + r + ", " + j + ")", house.sort(r, j), oracle.sort(r, j));
             due("cell(" + r + ", " + j + ")", house.cell(r, j), oracle.cell(r, j));
             due("real(" + j + ")", house.real(j), oracle.real(j));
@@ -347,7 +353,7 @@ public final class AgainstOracleTest {
             } else if (chance(70)) {
                 queryCall();
             } else {
-                runCall(chance(95) ? random.nextInt(Math.max(1, oracle.count(6))) : random.nextInt(12) - 2);
+                runCall(chance(95) ? random.nextInt(Math.max(1, oracle.count(6))) : extreme());
             }
             if (oracle.count(6) == 8 && chance(5)) {
                 due("clear()", house.clear(), oracle.clear());
