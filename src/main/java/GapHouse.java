@@ -1460,7 +1460,7 @@ public final class GapHouse {
         }
 
         /** Reads a CELL; a FINDING comes out as its sort. */
-        void readCell(int number, int at, long known, Cell out) {
+        private void readCell(int number, int at, long known, Cell out) {
             Column column = columnAt(number);
             if (column == null || at < 0 || at >= LINE) {
                 out.setEmpty(MISSING);
