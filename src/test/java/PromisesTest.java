@@ -772,6 +772,14 @@ public final class PromisesTest {
         faulty("use 0; let u = " + times(8, "-") + "abs(1); give a;", 5, 26);
         faulty("use 0; where " + times(4, "not[") + "(a) = 1" + times(4, "]") + "; give a;", 5, 29);
         right("use 0; where " + times(4, "not[") + "a = 1" + times(4, "]") + " and ((a)) = 1; give a;");
+        // what was cut off the tape is not there
+        tape("use 0; let u = 1.5");
+        x.end(17);
+        due("query", x.query(), -216);
+        // a tape full of TOKENS
+        faulty(times(600, ";"), 1, 0);
+        faulty("use 0; let u = " + times(585, "-"), 5, 23);
+        right("use 0; give a;" + times(586, " "));
         // QUERIES
         fresh(23);
         for (int i = 0; i < 8; i++) {
@@ -1178,6 +1186,32 @@ public final class PromisesTest {
         x.store(2, 0, 9, 1, false);
         x.store(2, 0, 10, 0, false);
         gives("use 0; join 1 on q b; give a;", "!4@7");
+        // 300 ROWS are let through, each a group of its own
+        use(28, () -> {
+            for (int i = 0; i < 20; i++) {
+                if (i % 10 == 0) {
+                    x.segment(0);
+                    x.segment(1);
+                }
+                x.late(0, i / 10, i < 15 ? i : 999);
+                x.late(1, i / 10, i);
+            }
+            x.constant(0, n("a"), 1, false);
+            x.constant(1, n("b"), 1, false);
+            x.plain(1, n("c"), 4);
+            ints(2, 0, 0, 1, 2, 3, 4, 5, 6, 7, 8, 9);
+            ints(2, 1, 10, 11, 12, 13, 14, 15, 16, 17, 18, 19);
+        });
+        due("rows", x.run(ask("use 0; from 0 to 14; join 1 on a b; let u = moment; group u, c; give u, c, count a, moment, sum c;")), 300);
+        for (int i = 0; i < 300; i++) {
+            due("group", row(i).equals(i / 20 + " " + i % 20 + " 1 " + i / 20 + " " + i % 20) ? 1 : 0, 1);
+        }
+        due("rows", x.run(ask("use 0; from 0 to 14; join 1 on a b; let u = moment; sort c down, u down; give u, c;")), 300);
+        for (int i = 0; i < 300; i++) {
+            due("row", row(i).equals((14 - i % 15) + " " + (19 - i / 15)) ? 1 : 0, 1);
+        }
+        due("one more row", x.run(ask("use 0; from 0 to 999; join 1 on a b; give a;")), -14);
+        due("spans", x.run(ask("use 0; from 0 to 14; join 1 on a b; span count 3; give first c;")), 100);
         use(28, () -> {
             x.segment(0);
             rows(0, 0, 0, 100);
