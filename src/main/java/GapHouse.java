@@ -1632,7 +1632,8 @@ public final class GapHouse {
 
         private int cutNumber(int from) {
             int to = digitsEnd(from);
-            boolean point = to + 1 < length && text[to] == '.' && isDigit(text[to + 1]);
+            // Behind more digits than a REAL may have there a point is no part of the TOKEN.
+            boolean point = to - from <= LONGEST_AHEAD && to + 1 < length && text[to] == '.' && isDigit(text[to + 1]);
             if (point) {
                 return cutReal(from, to);
             }
@@ -1646,7 +1647,7 @@ public final class GapHouse {
         private int cutReal(int from, int point) {
             int to = digitsEnd(point + 1);
             int behind = to - point - 1;
-            if (point - from > LONGEST_AHEAD || behind > LONGEST_BEHIND) {
+            if (behind > LONGEST_BEHIND) {
                 return stopAt(from);
             }
             long divisor = 1;

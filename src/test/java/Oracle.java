@@ -748,7 +748,7 @@ final class Oracle {
         String t = new String(tape, java.nio.charset.StandardCharsets.ISO_8859_1);
         List<Token> list = new ArrayList<>();
         java.util.regex.Matcher m = java.util.regex.Pattern
-            .compile("([ \n]+)|([a-z]+)|([0-9]+\\.[0-9]+)|([0-9]+)|(<=|>=|[;,=<>()\\[\\]+*/%-])").matcher(t);
+            .compile("([ \n]+)|([a-z]+)|([0-9]{1,9}\\.[0-9]+)|([0-9]+)|(<=|>=|[;,=<>()\\[\\]+*/%-])").matcher(t);
         int at = 0;
         while (at < t.length()) {
             m.region(at, t.length());
@@ -761,7 +761,7 @@ final class Oracle {
             if (m.group(2) != null) {
                 type = WORDS.contains(x) ? 'w' : x.length() <= 6 ? 'n' : '!';
             } else if (m.group(3) != null) {
-                type = x.indexOf('.') > 9 || x.length() - x.indexOf('.') - 1 > 6 ? '!' : 'r';
+                type = x.length() - x.indexOf('.') - 1 > 6 ? '!' : 'r';
             } else if (m.group(4) != null) {
                 type = x.length() > 12 ? '!' : 'i';
             } else if (m.group(5) != null) {

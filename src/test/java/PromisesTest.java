@@ -678,6 +678,22 @@ public final class PromisesTest {
         faulty("use 1234567890123; give a;", 1, 4);
         faulty("use 0; let u = 1.1234567; give a;", 1, 15);
         faulty("use 0; let u = 1.; give a;", 1, 16);
+        // behind more than 9 digits a point is no REAL's: they are a WHOLE, if they are 12 at most
+        faulty("use 0; known 1234567890.5; give a;", 1, 23);
+        faulty("use 0; known 0000000001.5; give a;", 1, 23);
+        faulty("use 0; known 123456789012.5; give a;", 1, 25);
+        faulty("use 0; known 1234567890123.5; give a;", 1, 13);
+        faulty("use 0; known 1234567890.1234567; give a;", 1, 23);
+        faulty("use 0; known 1234567890.; give a;", 1, 23);
+        faulty("use 0; known 123456789.5; give a;", 1, 13);
+        faulty("use 0; let u = 123456789.1234567; give a;", 1, 15);
+        faulty("use 0; let u = 1234567890.5; give a;", 1, 25);
+        faulty("use 0; let u = - 12345678901.5; give a;", 1, 28);
+        faulty("use 0; fill a 1234567890.5; give a;", 1, 24);
+        faulty("use 0; where a < 1234567890.5; give a;", 1, 27);
+        faulty("use 0; give 1234567890.5;", 1, 12);
+        faulty("use 1234567890.5; give a;", 3, 4);
+        faulty("use 0; span count 1234567890.5; give count a;", 3, 18);
         faulty("use 0; let use = 1; give a;", 1, 11);
         faulty("use 0; from 1 to 2 give a;", 1, 19);
         faulty("use 0; known -1; give a;", 1, 13);

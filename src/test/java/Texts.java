@@ -50,6 +50,9 @@ final class Texts {
     }
 
     private String whole() {
+        if (chance(1)) {
+            return "1234567890123".substring(0, 8 + random.nextInt(6)) + pick("", ".", ".5", ".123456", ".1234567");
+        }
         switch (random.nextInt(8)) {
             case 0: return "0";
             case 1: return "" + random.nextInt(100);
@@ -314,8 +317,8 @@ final class Texts {
             case 1: return text.substring(0, at) + pick("(", ")", ";", "[", "=", ".", "A", "\t", " known ", " not ", " - ") + text.substring(at);
             case 2: return text.substring(0, at) + (char) random.nextInt(256) + text.substring(Math.min(text.length(), at + 1));
             case 3: return text.substring(0, at) + text.substring(Math.min(text.length(), at + 1 + random.nextInt(3)));
-            case 4: return text.substring(0, at) + pick(" 1234567890123 ", " 1234567890.5 ", " 1.1234567 ", " 123456789.5 ", " 1. ", " .5 ",
-                " abcdefghijk ", " abcdefg ", " impossible ", " 12 ") + text.substring(at);
+            case 4: return text.substring(0, at) + pick(" 1234567890123 ", " 1234567890.5 ", " 123456789012.1234567 ", " 1234567890123.5 ", " 1.1234567 ",
+                " 123456789.5 ", " 1. ", " .5 ", " abcdefghijk ", " abcdefg ", " impossible ", " 12 ") + text.substring(at);
             case 5: return text + pick(";", " give a;", "  ", "\n", "x");
             default: return text.replaceFirst(pick("use", ";", "give", ",", "\\)", "first"), pick("", " line ", " 3 ", " zz "));
         }
