@@ -184,7 +184,59 @@ public final class BoundsRunTest {
         gives(twenty, "use 0; from 0 to 14; join 1 on a b; group all; give count a, count b;", "300 300");
         gives(twenty, "use 0; from 0 to 15; ^join 1 on a b; group all; give count a;", "!4");
         gives(twenty, "use 0; ^join 1 on a b; give a;", "!4");
+        Bounds.Maker sevens = x -> {
+            for (int i = 0; i < 43; i++) {
+                if (i % 16 == 0) {
+                    x.segment(0);
+                }
+                x.late(0, i / 16, i);
+            }
+            x.segment(1);
+            Bounds.rows(x, 1, 0, 1, 2, 3, 4, 5, 6, 7);
+            x.constant(0, n("a"), 1, false);
+            x.constant(1, n("b"), 1, false);
+        };
+        gives(sevens, "use 0; from 0 to 41; join 1 on a b; group all; give count a;", "294");
+        gives(sevens, "use 0; from 0 to 42; ^join 1 on a b; group all; give count a;", "!4");
+        gives(sevens, "use 1; ^join 0 on b a; group all; give count a;", "!4");
         gives(twenty, "use 1; from 0 to 14; join 0 on b a; group all; give count a, count b;", "300 300");
+        says("300 ROWS, 300 groups of them, 6 ITEMS each");
+        StringBuilder all = new StringBuilder();
+        StringBuilder groups = new StringBuilder();
+        for (int i = 0; i < 300; i++) {
+            all.append(i == 0 ? "" : "|").append(i / 20 + " 1 1 " + (i == 0 ? "#1" : i % 20 == 0 ? "1" : "0") + " " + (i + 1) + " " + i / 20);
+        }
+        gives(twenty, "use 0; from 0 to 14; join 1 on a b; let u = moment; give moment, a, b, diff u, cum a, u;", all.toString());
+        Bounds.Maker numbered = and(twenty, x -> {
+            for (int i = 0; i < 20; i++) {
+                x.store(3, i / 10, i % 10, i, false);
+            }
+        });
+        for (int i = 0; i < 300; i++) {
+            groups.append(i == 0 ? "" : "|").append(i / 20 + " " + i % 20 + " 1 1 " + i / 20 + " " + i % 20);
+        }
+        says("300 ROWS that are filled");
+        Bounds.Maker gaps = and(twenty, x -> {
+            x.put(2, 0, 4, 1);
+            x.put(3, 0, 4, 1);
+            x.store(3, 0, 0, 8, false);
+        });
+        StringBuilder last = new StringBuilder();
+        StringBuilder filled = new StringBuilder();
+        StringBuilder line = new StringBuilder();
+        for (int i = 0; i < 300; i++) {
+            String bar = i == 0 ? "" : "|";
+            int used = i / 20;
+            int other = i % 20;
+            last.append(bar).append("0 ").append(other < 10 ? "8" : "0");
+            filled.append(bar).append(used == 0 || used >= 10 ? "0 " : "7 ").append(other == 0 ? "8 " : other < 10 ? "9 " : "0 ").append("1");
+            double between = used == 0 || used >= 10 ? 0.0 : 0.0 + (0.0 - 0.0) * (used / 10.0);
+            line.append(bar).append(between).append(' ').append(other == 0 ? 8.0 : other < 10 ? 8.0 : 0.0);
+        }
+        gives(gaps, "use 0; from 0 to 14; join 1 on a b; fill c last; fill d last; give c, d;", last.toString());
+        gives(gaps, "use 0; from 0 to 14; join 1 on a b; let u = a; fill c 7; fill d 9; fill u 5; give c, d, u;", filled.toString());
+        gives(gaps, "use 0; from 0 to 14; join 1 on a b; fill c line; fill d line; give c, d;", line.toString());
+        gives(numbered, "use 0; from 0 to 14; join 1 on a b; let u = moment; group u, d; give u, d, count a, sum b, moment, first d;", groups.toString());
         // c is 1, 0, 0 .., d is 1, 1, 0 ..: 2 for the first ROW, 18 for each of the others
         Bounds.Maker sum = and(twenty, x -> x.store(3, 0, 1, 1, false));
         gives(sum, "use 0; from 0 to 16; join 1 on c d; group all; give count a;", "290");
@@ -347,6 +399,14 @@ public final class BoundsRunTest {
         gives(bad, "use 0; from 5 to 5; join 1 on e q; give f;", "");
         gives(bad, "use 0; from 1 to 1; join 1 on f ^q; give f;", "!2");
         gives(bad, "use 0; from 2 to 5; join 1 on f ^q; give f;", "!2");
+        Bounds.Maker first = and(bad, x -> {
+            x.store(2, 0, 0, 0, false);
+            x.store(2, 0, 1, 3, false);
+        });
+        gives(first, "use 0; from 2 to 4; join 1 on f q; give f;", "");
+        gives(first, "use 0; from 5 to 5; join 1 on e q; give f;", "");
+        gives(first, "use 0; from 2 to 4; join 1 on f b; give f;", "");
+        gives(first, "use 0; from 5 to 5; join 1 on e b; give f;", "");
         gives(bad, "use 1; join 0 on ^q f; give f;", "!2");
         gives(bad, "use 1; from 1 to 1; join 0 on q f; give f;", "");
         says("nothing is wanted of A and B: codes and marks are joined, too");
@@ -496,6 +556,15 @@ public final class BoundsRunTest {
         gives(kinds, "use 0; let u = c; let v = m; let w = u + v; where v < 2 and u > 0; sort v, u; give u, v, w, cum u;", "1 1 2 1");
         gives(kinds, "use 0; let u = c; let v = m; group all; give sum u, least v, median v, mean u, slope u;", "1 1 1.0 1.0 #4");
         gives(kinds, "use 0; let u = (c); let v = ((m)); give u, v;", "1 1");
+        says("a let is read like a COLUMN: by lets behind it, in where, sort, group, fill, ITEMS");
+        Bounds.Maker three = wholes(at(1, 2, 3), "a", 2, -3, 1);
+        gives(three, "use 0; let u = a / 2.0; let v = u + 1; let w = u * v; let x = min(u, v); give u, v, w, x;", "1.0 2.0 2.0 1.0|-1.5 -0.5 0.75 -1.5|0.5 1.5 0.75 0.5");
+        gives(three, "use 0; let u = a / 2.0; where u < 0.75; sort u; give u, diff u, cum u;", "-1.5 #1 -1.5|0.5 2.0 -1.0");
+        gives(three, "use 0; let u = a / 2.0; sort u; give u;", "-1.5|0.5|1.0");
+        gives(three, "use 0; let u = -a; let v = u - 0.5; sort u; give u, v;", "-2 -2.5|-1 -1.5|3 2.5");
+        gives(three, "use 0; let u = a / 2.0; let v = sign(a); group v; give v, sum v;", "1 2|-1 -1");
+        gives(three, "use 0; let u = a / 2.0; group all; give sum u, mean u, least u, great u, median u, ksum u;", "0.0 0.0 -1.5 1.0 0.5 0.0");
+        gives(three, "use 0; let u = a / 2.0; let v = a; group all; give sum v, least v, slope u, base u, quant 100 v, var u;", "0 -3 -0.25 0.25 2 1.1666666666666667");
     }
 
     private static void kindsOfLets() {
@@ -545,6 +614,22 @@ public final class BoundsRunTest {
         gives(holes, "use 0; from 0 to 30; fill r last; fill r line; give r;", "1.0|1.0|#4|1.0");
         gives(holes, "use 0; fill r line; fill r last; give r;", "1.0|3.0|#4|7.0|9.0|9.0");
         gives(holes, "use 0; fill r line; fill r 5; fill r 6; give r;", "1.0|3.0|#4|7.0|9.0|5.0");
+        says("line: the nearest ROWS, of gap after gap; what is filled is read so from then on");
+        Bounds.Maker gaps = and(at(0, 10, 20, 30, 40, 50, 60), x -> {
+            x.constant(0, n("k"), 5, false);
+            x.plain(0, n("a"), 4);
+            x.correct(1, 0, 1, -4, false, 0);
+            x.correct(1, 0, 3, 4, false, 0);
+            x.correct(1, 0, 5, -1, false, 0);
+        });
+        gives(gaps, "use 0; fill a line; give a;", "#1|-4.0|0.0|4.0|1.5|-1.0|#1");
+        gives(gaps, "use 0; fill k last; fill a line; give a, k;", "#1 5|-4.0 5|0.0 5|4.0 5|1.5 5|-1.0 5|#1 5");
+        gives(gaps, "use 0; let u = a; fill u line; fill a last; give u, a;", "#1 #1|-4.0 -4|0.0 -4|4.0 4|1.5 4|-1.0 -1|#1 -1");
+        gives(gaps, "use 0; fill a line; where a > -1.5 and a <= 1.5; give a;", "0.0|1.5|-1.0");
+        gives(gaps, "use 0; fill a line; sort a; give a;", "-4.0|-1.0|0.0|1.5|4.0|#1|#1");
+        gives(gaps, "use 0; fill a line; group all; give sum a, mean a, least a, great a, median a, count a;", "0.5 0.1 -4.0 4.0 0.0 5");
+        gives(gaps, "use 0; fill a line; give diff a, cum a;", "#1 #1|#1 -4.0|4.0 -4.0|4.0 0.0|-2.5 1.5|-2.5 0.5|#1 #1");
+        gives(gaps, "use 0; fill a line; fill a line; fill a 2; give a;", "2.0|-4.0|0.0|4.0|1.5|-1.0|2.0");
 
         says("line: v + (w - v) * ((t - m) / (n - m)), all as REALS; v where m is n");
         long[][] moments = {{0, 1, 3}, {-5, 0, 2}, {-Bounds.MOST, 7, Bounds.MOST}, {1, 1, 2}, {1, 2, 2}, {1, 1, 1}, {0, 333, 1000}};
@@ -707,6 +792,21 @@ public final class BoundsRunTest {
         gives(SORTS, "use 0; from 9 to 9; group e; give e, count e;", "");
         gives(x -> x.plain(0, n("a"), 4), "use 0; group all; give count a, sum a, moment;", "0 #1 #1");
 
+        says("what is told of a group is of its ROWS alone");
+        Bounds.Maker sizes = reals(wholes(wholes(at(1, 2, 3, 5, 8, 13, 21), "g", 1, 2, 1, 3, 1, 2, 1), "a", 9, -4, 7, 5, 3, 2, 8), "r", 0.5, 1e100, NAN, 0.1, 2.5, -1e100, 4.0);
+        String[] acts = {"count", "missing", "beyond", "other", "impossible", "sum", "ksum", "mean", "var", "least", "great", "median", "first", "last", "slope", "base",
+            "quant 0", "quant 50", "quant 100"};
+        for (String act : acts) {
+            StringBuilder each = new StringBuilder();
+            for (int g = 1; g <= 3; g++) {
+                GapHouse x = Bounds.made(sizes);
+                x.run(Bounds.ask(x, "use 0; where g = " + g + "; group all; give " + act + " a, " + act + " r;"));
+                each.append(g == 1 ? "" : "|").append(Bounds.result(x));
+            }
+            gives(sizes, "use 0; group g; give " + act + " a, " + act + " r;", each.toString());
+        }
+        gives(sizes, "use 0; group g; give ksum a, sum a, count a, ksum r;", "27.0 27 4 #4|-2.0 -2 2 0.0|5.0 5 1 0.1");
+
         says("span count n: n ROWS each, the last one what is left; none without ROWS");
         String[] due = {"", "1|1|1|1|1", "2|2|1", "3|2", "4|1", "5", "5"};
         for (int n = 1; n <= 6; n++) {
@@ -793,6 +893,24 @@ public final class BoundsRunTest {
         gives(mixed, "use 0; sort e down missing first impossible first; give moment;", "2|3|4|5|7|1|6");
         gives(mixed, "use 0; let u = -moment; sort e, u; give moment;", "6|1|7|5|4|3|2");
         gives(mixed, "use 0; from 9 to 9; sort e; give moment;", "");
+        gives(mixed, "use 0; let u = -moment; sort u; give moment;", "7|6|5|4|3|2|1");
+        Bounds.Maker turned = and(at(7, 6, 1), x -> {
+            for (int i = 1; i < 5; i++) {
+                x.segment(0);
+                x.late(0, i, i + 1);
+            }
+            x.plain(0, n("e"), 7);
+            // IMPOSSIBLE at 6 and 1, -1.0 at 7; at 2 MISSING, at 3 IMPOSSIBLE, at 4 OTHER, at 5 2.5
+            Bounds.reals(x, 0, 0, -1.0, NAN, NAN);
+            Bounds.reals(x, 0, 2, NAN);
+            x.put(0, 3, 6, 1);
+            Bounds.reals(x, 0, 4, 2.5);
+        });
+        gives(turned, "use 0; sort e; give moment;", "7|5|1|3|6|2|4");
+        gives(turned, "use 0; sort e missing first; give moment;", "2|4|7|5|1|3|6");
+        gives(turned, "use 0; sort e impossible first; give moment;", "1|3|6|7|5|2|4");
+        gives(turned, "use 0; sort e missing first impossible first; give moment;", "2|4|1|3|6|7|5");
+        gives(turned, "use 0; sort e down missing first impossible first; give moment;", "2|4|1|3|6|5|7");
     }
 
     // ---- give
@@ -1052,6 +1170,8 @@ public final class BoundsRunTest {
         line(new long[] {5}, 7);
         line(new long[] {1, 2}, INFINITE, 1);
         line(new long[] {1, 2}, NAN, 1);
+        line(new long[] {0, 1}, 0, 0);
+        line(new long[] {0, 1, 2}, Double.MIN_VALUE, Double.MIN_VALUE, Double.MIN_VALUE);
         line(new long[] {1, 2}, Double.MAX_VALUE, Double.MAX_VALUE);
         says("the group's first ROW, whether it holds a NUMBER or not");
         Bounds.Maker gap = and(at(10, 12, 15), x -> {
@@ -1219,6 +1339,45 @@ public final class BoundsRunTest {
         }), x -> x.digest(), h);
     }
 
+    private static final String[] TEXTS = {"use 0; give e, f;", "use 0; group e; give e, count f, moment;", "use 0; group all; give count e, sum f, moment;",
+        "use 0; from 9 to 9; group all; give count e, moment;", "use 0; span count 2; give count f, moment;", "use 0; span time 3; give count f, moment;",
+        "use 0; sort f down missing first; give moment, cum f, diff f;", "use 0; let u = f / 2.0; let v = u * 2; give u, v;", "use 0; let u = 1 / 0; give u;",
+        "use 0; fill f line; fill e last; give e, f;", "use 0; let u = f; let v = e; fill u last; fill v 1; where u = 3; give u, v, moment;", "use 0; group f, e; give e, f;",
+        "use 0; join 1 near 1; give moment, b;", "use 0; join 1 on f b; give f, b;", "use 1; give b;", "use 0; where e is missing or f > 3; give moment;",
+        "use 0; group all; give least f, great f, median f, slope f, base f, first e;", "use 1; join 0 on b f; group b; give b, moment, sum f;"};
+
+    private static void runBehindRun() {
+        says("a RUN gives what it gives, whatever RUNS were ahead of it");
+        Bounds.Maker maker = and(SORTS, x -> {
+            x.segment(1);
+            Bounds.rows(x, 1, 0, 1, 2, 4);
+            x.plain(1, n("b"), 4);
+            Bounds.wholes(x, 2, 0, 3, 4, 4);
+        });
+        String[] alone = new String[TEXTS.length];
+        for (int i = 0; i < TEXTS.length; i++) {
+            GapHouse x = Bounds.made(maker);
+            x.run(Bounds.ask(x, TEXTS[i]));
+            alone[i] = ended(x);
+        }
+        for (int i = 0; i < TEXTS.length; i++) {
+            for (int j = 0; j < TEXTS.length; j++) {
+                GapHouse x = Bounds.made(maker);
+                int first = Bounds.ask(x, TEXTS[i]);
+                int second = Bounds.ask(x, TEXTS[j]);
+                x.run(first);
+                x.run(second);
+                Bounds.due(TEXTS[j] + " behind " + TEXTS[i], ended(x), alone[j]);
+                x.run(first);
+                Bounds.due(TEXTS[i] + " again", ended(x), alone[i]);
+            }
+        }
+    }
+
+    private static String ended(GapHouse x) {
+        return x.ended(0) + "@" + x.ended(1) + " " + x.ended(3) + " " + x.ended(4) + " " + x.digest() + " " + Bounds.result(x);
+    }
+
     public static void main(String[] args) {
         order();
         rooms();
@@ -1239,6 +1398,7 @@ public final class BoundsRunTest {
         lines();
         runs();
         results();
+        runBehindRun();
         Bounds.close();
     }
 }

@@ -823,6 +823,17 @@ public final class BoundsStoreTest {
         });
         tells(like, x -> x.read(0, 0, 0, 5), 2);
         tells(like, x -> x.read(0, 0, 0, 4), 3);
+        Bounds.Maker falling = both(ONE, x -> {
+            x.plain(0, n("a"), 4);
+            x.correct(0, 0, 0, 3, false, 30);
+            x.correct(0, 0, 0, 2, false, 20);
+            x.correct(0, 0, 0, 1, false, 10);
+        });
+        for (int time = 1; time <= 4; time++) {
+            int k = time * 10;
+            tells(falling, x -> x.read(0, 0, 0, k), Math.min(3, k / 10));
+        }
+        tells(falling, x -> x.look(0, 0, 0, 9), 1);
 
         says("whatever stands in the ARRAY");
         for (int sort = 0; sort <= 3; sort++) {
@@ -971,6 +982,15 @@ public final class BoundsStoreTest {
         answers(six, x -> x.spread(0, 6, false), 6);
         answers(both(six, x -> x.spread(0, 6, false)), x -> x.array(0, 5, 1), 16);
         answers(both(six, x -> x.spread(0, 6, false)), x -> x.read(0, 5, 15, 0), 6);
+        Bounds.Maker sixOfTwo = both(six, x -> {
+            x.plain(0, n("b"), 4);
+            x.spread(0, 6, false);
+        });
+        for (int segment = 0; segment < 6; segment++) {
+            int s = segment;
+            tells(sixOfTwo, x -> x.array(0, s, 0), 4);
+            tells(sixOfTwo, x -> x.array(1, s, 0), NONE);
+        }
         for (int column : new int[] {-1, 5, 16, Integer.MIN_VALUE, Integer.MAX_VALUE}) {
             refuses(SOME, x -> x.spread(column, 6, false), UNKNOWN);
         }
@@ -1155,6 +1175,68 @@ public final class BoundsStoreTest {
         tells(added, x -> x.moment(0, 2, 0), 0);
         tells(added, x -> x.count(2), 6);
         answers(both(added, x -> x.late(0, 2, 8)), x -> x.look(0, 2, 0, 5), 1);
+        gluedBehind();
+    }
+
+    private static void gluedBehind() {
+        says("glue of SEGMENTS that are not the first: ROWS, ARRAYS, CORRECTIONS of them and of those behind and ahead");
+        Bounds.Maker maker = apart(x -> {
+            x.segment(0);
+            Bounds.rows(x, 0, 3, 8, 9);
+            x.plain(0, n("d"), 1);
+            x.correct(1, 2, 0, 66, false, 5);
+            x.correct(1, 3, 1, 99, false, 5);
+            for (int column : new int[] {0, 1, 3}) {
+                Bounds.wholes(x, column, 0, 11, 12);
+                Bounds.wholes(x, column, 1, 13, 14, 15, 98);
+                Bounds.wholes(x, column, 2, 16, 97);
+                Bounds.wholes(x, column, 3, 18, 19);
+            }
+            Bounds.due("glue()", x.glue(0, 1), 4);
+        });
+        long[][] due = {{11, 12}, {13, 14, 15, 16}, {18, 19}};
+        for (int column : new int[] {0, 1, 3}) {
+            for (int segment = 0; segment < 3; segment++) {
+                int s = segment;
+                tells(maker, x -> x.array(column, s, 1), due[s].length);
+                for (int row = 0; row < due[s].length; row++) {
+                    int r = row;
+                    tells(maker, x -> x.read(column, s, r, 0), due[s][r]);
+                }
+            }
+        }
+        tells(maker, x -> x.moment(0, 1, 3), 6);
+        tells(maker, x -> x.moment(0, 2, 0), 8);
+        tells(maker, x -> x.read(1, 1, 3, 5), 66);
+        tells(maker, x -> x.read(1, 2, 1, 5), 99);
+        says("PLAIN COLUMNS have NOTHING in a SEGMENT that comes where one with ARRAYS was");
+        Bounds.Maker added = both(maker, x -> Bounds.due("segment()", x.segment(0), 3));
+        for (int column : new int[] {0, 1, 3}) {
+            tells(added, x -> x.array(column, 3, 0), NONE);
+            tells(added, x -> x.array(column, 2, 1), 2);
+        }
+        says("glue of the last two of 6 leaves the other SERIES as it is");
+        Bounds.Maker six = x -> {
+            for (int i = 0; i < 6; i++) {
+                x.segment(0);
+                x.late(0, i, i);
+            }
+            x.segment(1);
+            x.late(1, 0, 77);
+            x.plain(0, n("a"), 4);
+            x.plain(0, n("b"), 4);
+            x.plain(1, n("c"), 4);
+            x.spread(0, 5, false);
+            x.spread(1, 6, false);
+            x.spread(2, 7, false);
+            Bounds.due("glue()", x.glue(0, 4), 2);
+        };
+        tells(six, x -> x.moment(1, 0, 0), 77);
+        tells(six, x -> x.moment(0, 4, 1), 5);
+        tells(six, x -> x.read(0, 4, 1, 0), 5);
+        tells(six, x -> x.read(1, 0, 0, 0), 6);
+        tells(six, x -> x.read(2, 0, 0, 0), 7);
+        tells(six, x -> x.array(1, 0, 1), 1);
     }
 
     // ---- promise 15
@@ -1181,6 +1263,30 @@ public final class BoundsStoreTest {
             answers(both(sixteen, x -> x.thin(0, by)), x -> x.count(2), kept[by]);
             answers(both(sixteen, x -> x.thin(0, by)), x -> x.moment(0, 0, kept[by] - 1), 100 + (kept[by] - 1) * by);
             answers(both(sixteen, x -> x.thin(0, by)), x -> x.moment(0, 0, kept[by]), 0);
+        }
+
+        says("thin: of a SERIES: the other one stays as it is");
+        Bounds.Maker sixEach = x -> {
+            for (int i = 0; i < 12; i++) {
+                x.segment(i % 2);
+                Bounds.rows(x, i % 2, i / 2, 1, 2, 3);
+            }
+            x.plain(0, n("a"), 4);
+            x.plain(1, n("b"), 4);
+            x.spread(0, 5, false);
+            x.spread(1, 6, false);
+        };
+        for (int series = 0; series < 2; series++) {
+            int s = series;
+            answers(sixEach, x -> x.thin(s, 2), 6);
+            Bounds.Maker thinned = both(sixEach, x -> x.thin(s, 2));
+            for (int segment = 0; segment < 6; segment++) {
+                int g = segment;
+                answers(thinned, x -> x.array(s, g, 1), 2);
+                answers(thinned, x -> x.array(1 - s, g, 1), 3);
+                answers(thinned, x -> x.moment(s, g, 1), 3);
+                answers(thinned, x -> x.moment(1 - s, g, 2), 3);
+            }
         }
 
         says("in ARRAYS what stands at these places (as far as they reach; those beyond all ROWS go, too)");

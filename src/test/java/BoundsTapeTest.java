@@ -247,6 +247,22 @@ public final class BoundsTapeTest {
         faulty("use 0; span count ^2.5; give count a;", 1);
         faulty("use 0; group all; give quant ^2.5 a;", 1);
 
+        says("what stands behind THE TAPE's end is no part of a TOKEN, whatever was there; nor is there anything behind 600 bytes");
+        String[][] cut = {{"use 0; let u = 1^.", "5"}, {"use 0; let u = 1^", ".5"}, {"use 0; where a <^", "="}, {"use 0; where a >^", "= 1"}, {"use 0; give^", "n"},
+            {"use 0; let u = 1.5^", "5"}, {"^us", "e"}, {"use 0; where a is^", " there"}};
+        for (String[] text : cut) {
+            String bare = text[0].replace("^", "");
+            int place = text[0].indexOf('^');
+            Bounds.answers(HOUSE, x -> {
+                Bounds.tape(x, bare + text[1]);
+                x.end(bare.length());
+                return x.query();
+            }, -200 - place);
+            Bounds.answers(HOUSE, x -> Bounds.ask(x, times(600 - bare.length(), " ") + bare), -200 - (600 - bare.length() + place));
+        }
+        right("use 0; give a" + times(586, "\n") + ";");
+        faulty(times(594, " ") + "use 0;^", 1);
+
         says("blanks (32, 10) between as one likes; FAULT 1: no TOKEN begins there");
         for (int b = 0; b < 256; b++) {
             if (b == 32 || b == 10) {
@@ -409,6 +425,15 @@ public final class BoundsTapeTest {
         faulty("use 0; where ^; give a;", 1);
         faulty("use 0; where ^= 1; give a;", 1);
         faulty("use 0; where a unlike ^unlike 1; give a;", 1);
+        faulty("use 0; where ^unlike 1; give a;", 1);
+        faulty("use 0; where ^is there; give a;", 1);
+        faulty("use 0; where a = ^or a = 1; give a;", 1);
+        faulty("use 0; where a = ^and a = 1; give a;", 1);
+        faulty("use 0; where a = 1 + ^or a = 1; give a;", 1);
+        faulty("use 0; where [a = ^or a = 1]; give a;", 1);
+        faulty("use 0; where a = ^not a = 1; give a;", 1);
+        faulty("use 0; where a = 1 or ^and a = 1; give a;", 1);
+        faulty("use 0; where ^all = 1; give a;", 1);
 
         says("EXP, TERM, ONE, FUN");
         right("use 0; let u = --a - -1 * -(a) + ((moment)) % 2 / 3; give u;");
@@ -542,6 +567,8 @@ public final class BoundsTapeTest {
         right("use 0; group a; give a;");
         right("use 0; group a, r; give r, a, r;");
         faulty("use 0; group a; give ^r;", 2);
+        faulty("use 0; group r; give ^a;", 2);
+        faulty("use 0; group r, z; give r, z, ^a;", 2);
         faulty("use 0; group a, r; give a, ^z;", 2);
         right("use 0; let u = 1; group u; give u;");
         faulty("use 0; let u = 1; group a; give ^u;", 2);
@@ -852,6 +879,9 @@ public final class BoundsTapeTest {
         right("use 0; let u = 1" + times(9, "*-1") + "; give a;");
         right("use 0; where " + times(8, "not ") + "a = 1 or [a = 1]; give a;");
         right("use 0; let u = (1)" + times(9, "+(1)") + "; let v = -1" + times(9, "+-1") + "; give a;");
+        for (String fun : new String[] {"abs(1)", "floor(1)", "ceil(1)", "round(1)", "sign(1)", "min(1,1)", "max(1,1)", "(1)", "-1", "min(-1,(1))"}) {
+            right("use 0; let u = " + fun + times(9, "+" + fun) + "; give a;");
+        }
         right("use 0; where not a = 1" + times(8, " or not a = 1") + "; give a;");
         right("use 0; where [a = 1]" + times(9, " or [a = 1]") + "; give a;");
         right("use 0; let u = " + times(8, "(") + "1" + times(8, ")") + " + " + times(8, "(") + "1" + times(8, ")") + "; give a;");
@@ -870,6 +900,55 @@ public final class BoundsTapeTest {
         faulty("use 0; where " + times(8, "not ") + "^" + times(138, "not "), 5);
     }
 
+    // ---- one text behind another
+
+    private static final String[] AHEAD = {"use 1; join 0 on b a; let u = 1.5; let v = 2.5; let w = 3.5; let x = 4.5; give zz;", "use 0; let u = ((((((((1",
+        "use 0; let u = " + "--------1;", "use 0; where not [not [not [not [a", "use 0; let u = 1" + "+1".repeat(30) + ";", "use 0; fill a line; fill r 1.5; fill m line; zz",
+        "use 0; sort a down, r missing first, z down; zz", "use 0; group a, r; zz", "use 0; group all; give count a, sum r, sum a, mean a, var r, least r; zz",
+        "use 0; give r, r, r, r, r, r; zz", "use 0; join 1 near 5; give b; zz", "use 0; span time 1; zz", "use 0; span count 1; zz", "use 0; where a = 1 and a = 2; give r; zz",
+        "use 0; known 0; from 99 to 99; give a; zz", "use 0; where a + r + m + k + z + s + q = 1; zz", "use 0; join 1 on r t; give r; zz"};
+
+    private static final String[] BEHIND = {"use 0; give a;", "use 0; give moment, a, r;", "use 0; join 1 on a b; give a, b, t;", "use 0; join 1 near 5; give moment, b;",
+        "use 0; let u = (((((((1))))))); give u;", "use 0; let u = 1" + "+1".repeat(30) + "; give u;", "use 0; let u = 1; let v = u; let w = v + 1.5; let x = 7; give u, v, w, x;",
+        "use 0; fill a 1; fill r 2; fill m 3; give a, r, m;", "use 0; fill a 1.5; give a;", "use 0; sort r, a down, z; give r, a;", "use 0; group r, a; give r, a, count a;",
+        "use 0; group r; give a;", "use 0; group all; give count a, sum a;", "use 0; span count 5; give moment, count a;", "use 0; span time 5; give moment, count a;",
+        "use 0; give b;", "use 0; give u;", "use 0; where not not not not not not not not a = 3; give a;", "use 0; where a = 3; give moment;",
+        "use 0; give a, a, a, a, a, a;", "use 1; join 0 on t r; give t;", "use 0; let u = c; group u; give u, count m, sum k, sum z, sum s;"};
+
+    private static String told(GapHouse x, String text) {
+        int q = Bounds.ask(x, text);
+        if (q < 0) {
+            return q + " " + x.fault();
+        }
+        String costs = x.cost(q, 0) + " " + x.cost(q, 1) + " " + x.cost(q, 2) + " " + x.cost(q, 3);
+        int rows = x.run(q);
+        return costs + ": " + rows + " " + x.ended(0) + "@" + x.ended(1) + " " + x.ended(3) + " " + x.real(0) + x.real(1) + x.real(2) + x.real(3) + " " + Bounds.result(x);
+    }
+
+    private static void oneBehindAnother() {
+        says("a text is a QUERY, or has a FAULT, whatever texts were ahead of it");
+        for (String text : BEHIND) {
+            String alone = told(Bounds.made(HOUSE), text);
+            for (String ahead : AHEAD) {
+                GapHouse x = Bounds.made(HOUSE);
+                Bounds.due("a FAULT of " + ahead, Bounds.ask(x, ahead) < 0, true);
+                Bounds.due(text + " behind " + ahead, told(x, text), alone);
+                Bounds.due("a FAULT of " + ahead, Bounds.ask(x, ahead) < 0, true);
+                Bounds.due(text + " behind it, again", told(x, text), alone);
+            }
+            GapHouse tired = Bounds.made(HOUSE);
+            for (int i = 0; i < 10; i++) {
+                Bounds.ask(tired, AHEAD[4]);
+            }
+            Bounds.due(text + " behind ten others", told(tired, text), alone);
+            for (String ahead : BEHIND) {
+                GapHouse x = Bounds.made(HOUSE);
+                told(x, ahead);
+                Bounds.due(text + " behind " + ahead, told(x, text), alone);
+            }
+        }
+    }
+
     public static void main(String[] args) {
         feedAndEnd();
         queries();
@@ -884,6 +963,7 @@ public final class BoundsTapeTest {
         columnsRead();
         signsAndWords();
         oneInTheOther();
+        oneBehindAnother();
         Bounds.close();
     }
 }

@@ -230,7 +230,7 @@ public final class BoundsWaysTest {
         Bounds.wholes(x, 0, 0, 1, 2);
         Bounds.wholes(x, 0, 1, 3);
         Bounds.reals(x, 4, 0, 1.5);
-        x.correct(0, 0, 1, 9, false, 10);
+        x.correct(0, 0, 1, 9, false, 0);
         x.correct(4, 0, 0, 9, false, 10);
     };
 
@@ -243,6 +243,9 @@ public final class BoundsWaysTest {
             x.late(0, 1, 99);
             x.put(0, 1, 4, 20);
             x.correct(0, 1, 0, 5, false, 0);
+        }, x -> {
+            x.thin(0, 2);
+            x.correct(0, 0, 0, 5, false, 3);
         }};
 
     private static void marks() {
@@ -299,6 +302,7 @@ public final class BoundsWaysTest {
                 x.undo(1);
             }))), Bounds.view(Bounds.made(and(and(marked, change), x -> x.mark()))));
         }
+        fullMark();
         says("a NAME that went with its COLUMN is free again");
         Bounds.answers(and(marked, x -> {
             x.plain(0, n("y"), 4);
@@ -327,6 +331,62 @@ public final class BoundsWaysTest {
         Bounds.answers(undone, x -> x.ended(2), 1);
         Bounds.answers(undone, x -> x.fault(), 3);
         Bounds.answers(undone, x -> x.count(9), 14);
+    }
+
+    /** All that there can be: 6 SEGMENTS of 16 ROWS each, 16 PLAIN COLUMNS with ARRAYS, 40 CORRECTIONS. */
+    private static final Bounds.Maker FULL = x -> {
+        for (int i = 0; i < 12; i++) {
+            x.segment(i % 2);
+            for (int row = 0; row < 16; row++) {
+                x.late(i % 2, i / 2, 1000 * i + row);
+            }
+        }
+        for (int i = 0; i < 16; i++) {
+            x.plain(i % 2, n("c" + (char) ('a' + i)), 5);
+            x.spread(i, 100 + i, false);
+        }
+        for (int i = 0; i < 40; i++) {
+            x.correct(i % 16, i % 6, i % 16, 2000 + i, false, i);
+        }
+    };
+
+    /** So many calls tell of FULL that each object is asked for a COLUMN alone. */
+    private static String fullView(Bounds.Maker maker, int column) {
+        GapHouse x = Bounds.made(maker);
+        StringBuilder b = new StringBuilder();
+        for (int segment = 0; segment < 6; segment++) {
+            b.append("\n").append(x.array(column, segment, 0)).append(' ').append(x.array(column, segment, 1));
+            for (int row = 0; row < 16; row++) {
+                b.append(' ').append(x.moment(column % 2, segment, row)).append(' ').append(x.read(column, segment, row, 20)).append(' ')
+                    .append(x.read(column, segment, row, 39));
+            }
+        }
+        return b.toString();
+    }
+
+    private static void fullMark() {
+        says("MARKS keep all, as much as there can be");
+        Bounds.Maker marked = and(FULL, x -> x.mark());
+        Bounds.Maker undone = and(marked, x -> {
+            for (int series = 0; series < 2; series++) {
+                x.thin(series, 2);
+                for (int i = 0; i < 5; i++) {
+                    x.glue(series, 0);
+                }
+            }
+            for (int i = 0; i < 16; i++) {
+                x.spread(i, 7, false);
+                x.correct(i, 0, 0, 8, false, 1);
+            }
+            x.undo(0);
+        });
+        for (int column = 0; column < 16; column++) {
+            Bounds.due("COLUMN " + column, fullView(undone, column), fullView(marked, column));
+        }
+        for (int what = 0; what < 8; what++) {
+            int w = what;
+            Bounds.answers(undone, x -> x.count(w), new int[] {6, 6, 96, 96, 16, 40, 0, 1}[w]);
+        }
     }
 
     /** SOME with a MARK, then y and SCALED w over it, z over a; QUERIES: y in each clause, w, z, none of them. */
@@ -380,6 +440,21 @@ public final class BoundsWaysTest {
                 x.mark();
                 x.undo(1);
             }), x -> x.run(0) >= 0 ? 1 : 0, 1);
+        }
+        says("the first COLUMN, too, and the last one");
+        for (String name : new String[] {"ca", "cp"}) {
+            Bounds.refuses(x -> {
+                x.segment(0);
+                x.mark();
+                for (int i = 0; i < 16; i++) {
+                    x.constant(0, n("c" + (char) ('a' + i)), i, false);
+                }
+                Bounds.ask(x, "use 0; give " + name + ";");
+                x.undo(0);
+                for (int i = 0; i < 16; i++) {
+                    x.constant(0, n("c" + (char) ('a' + i)), i, false);
+                }
+            }, x -> x.run(0), STATE);
         }
         says("run: STATE ahead of ROOM");
         Bounds.Maker full = and(GONE, x -> {
@@ -470,6 +545,13 @@ public final class BoundsWaysTest {
             SOME.make(x);
             Bounds.ask(x, "use 0; give a;");
         }), x -> x.way(0), 0);
+        Bounds.Maker failed = and(SOME, x -> {
+            x.run(Bounds.ask(x, "use 0; let u = 1 / 0; give u;"));
+            x.clear();
+        });
+        Bounds.due("all as at the beginning behind a FINDING", viewWithoutRuns(failed), viewWithoutRuns(Bounds.NEW));
+        Bounds.answers(failed, x -> x.ended(0), 0);
+        Bounds.answers(failed, x -> x.ended(1), NONE);
         says("a QUERY of before is gone with clear()");
         Bounds.answers(and(cleared, SOME), x -> x.way(0), UNKNOWN);
     }
