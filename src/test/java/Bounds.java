@@ -20,6 +20,9 @@ final class Bounds {
         long on(GapHouse x);
     }
 
+    /** Methods of the tests that check for others: what they check is told by who called them. */
+    private static final String HELPERS = "right|faulty|answers|refuses|tells|gives|fails|kept|isReal|line";
+
     private static String sentence = "";
     private static int wrong = 0;
     private static int checks = 0;
@@ -42,7 +45,7 @@ final class Bounds {
 
     private static String where() {
         for (StackTraceElement e : new Throwable().getStackTrace()) {
-            if (!e.getClassName().startsWith("Bounds") || e.getClassName().endsWith("Test") && !e.getMethodName().matches("right|faulty|answers|refuses|tells|gives|fails|kept|isReal")) {
+            if (!e.getClassName().startsWith("Bounds") || e.getClassName().endsWith("Test") && !e.getMethodName().matches(HELPERS)) {
                 return e.getFileName() + ":" + e.getLineNumber();
             }
         }

@@ -52,8 +52,8 @@ public final class BoundsRunTest {
     }
 
     /**
-     * ROWS at 1 to 5 with a COLUMN e of doubles: 2.5, MISSING (no CORRECTION and NOTHING: SEGMENT 1), BEYOND, OTHER, IMPOSSIBLE; f the same in ints without
-     * the last; x, y, z tell the ROWS apart.
+     * ROWS at 1 to 5, each in a SEGMENT of its own, with a COLUMN e of doubles: 2.5, MISSING, BEYOND, OTHER, IMPOSSIBLE, and one f of ints: 3, MISSING, BEYOND,
+     * OTHER, 4.
      */
     private static final Bounds.Maker SORTS = x -> {
         for (int i = 0; i < 5; i++) {
@@ -236,6 +236,10 @@ public final class BoundsRunTest {
         gives(gaps, "use 0; from 0 to 14; join 1 on a b; fill c last; fill d last; give c, d;", last.toString());
         gives(gaps, "use 0; from 0 to 14; join 1 on a b; let u = a; fill c 7; fill d 9; fill u 5; give c, d, u;", filled.toString());
         gives(gaps, "use 0; from 0 to 14; join 1 on a b; fill c line; fill d line; give c, d;", line.toString());
+        for (String how : new String[] {"last", "9", "line"}) {
+            gives(gaps, "use 0; from 0 to 14; join 1 on a b; fill a " + how + "; fill b " + how + "; fill c " + how + "; group all; give count a, count b, count c;",
+                "300 300 300");
+        }
         gives(numbered, "use 0; from 0 to 14; join 1 on a b; let u = moment; group u, d; give u, d, count a, sum b, moment, first d;", groups.toString());
         // c is 1, 0, 0 .., d is 1, 1, 0 ..: 2 for the first ROW, 18 for each of the others
         Bounds.Maker sum = and(twenty, x -> x.store(3, 0, 1, 1, false));
@@ -598,6 +602,9 @@ public final class BoundsRunTest {
         gives(SORTS, "use 0; from 2 to 5; fill e last; fill f last; give e, f;", "#1 #1|#2 #2|#3 #3|#4 4");
         gives(SORTS, "use 0; fill e 0.5; fill f -7; give e, f;", "2.5 3|0.5 -7|0.5 -7|0.5 -7|#4 4");
         gives(SORTS, "use 0; fill e - 7; give e;", "2.5|-7.0|-7.0|-7.0|#4");
+        gives(SORTS, "use 0; fill e -1.5; give e;", "2.5|-1.5|-1.5|-1.5|#4");
+        gives(SORTS, "use 0; fill e - 0.0; give e;", "2.5|-0.0|-0.0|-0.0|#4");
+        gives(SORTS, "use 0; fill e - 0; fill f -0; give e, f;", "2.5 3|0.0 0|0.0 0|0.0 0|#4 4");
         gives(SORTS, "use 0; fill e 999999999999; fill f -999999999999; give e, f;",
             "2.5 3|9.99999999999E11 -999999999999|9.99999999999E11 -999999999999|9.99999999999E11 -999999999999|#4 4");
         says("(IMPOSSIBLE ones are no NUMBERS here; those filled are not looked at.)");
@@ -763,6 +770,41 @@ public final class BoundsRunTest {
         gives(kinds, "use 0; where [1 = 1 or 1 = 1] and 1 = 2; give c;", "");
         gives(kinds, "use 0; where not 1 = 2 and 1 = 2; give c;", "");
         gives(kinds, "use 0; where not [1 = 2 and 1 = 2]; give c;", "1");
+        truths();
+    }
+
+    /** Of ROW 1 of SORTS: what is so, what is not. */
+    private static final String[] SO = {"1 = 1", "e is there", "f < 4"};
+    private static final String[] NOT_SO = {"1 = 2", "e is missing", "f >= 4"};
+
+    private static void truths() {
+        says("COND: or, and, not, [ ]: in a text with lets, too");
+        for (int i = 0; i < 3; i++) {
+            for (int mask = 0; mask < 8; mask++) {
+                boolean a = (mask & 1) != 0;
+                boolean b = (mask & 2) != 0;
+                boolean c = (mask & 4) != 0;
+                String p = (a ? SO : NOT_SO)[i];
+                String q = (b ? SO : NOT_SO)[(i + 1) % 3];
+                String r = (c ? SO : NOT_SO)[(i + 2) % 3];
+                truth(p + " or " + q + " and " + r, a || b && c);
+                truth(p + " and " + q + " or " + r, a && b || c);
+                truth("[" + p + " or " + q + "] and " + r, (a || b) && c);
+                truth(p + " and [" + q + " or " + r + "]", a && (b || c));
+                truth("not " + p + " and " + q + " and " + r, !a && b && c);
+                truth("not " + p + " or not " + q + " or not " + r, !a || !b || !c);
+                truth("not [" + p + " or " + q + "] or " + r, !(a || b) || c);
+                truth("not [" + p + " and not [" + q + " or not " + r + "]]", !(a && !(b || !c)));
+                truth("not not " + p + " and not not not " + q + " or [[" + r + "]]", a && !b || c);
+                truth(p + " or " + q + " or " + r, a || b || c);
+                truth(p + " and " + q + " and " + r, a && b && c);
+            }
+        }
+    }
+
+    private static void truth(String cond, boolean so) {
+        gives(SORTS, "use 0; from 1 to 1; where " + cond + "; give f;", so ? "3" : "");
+        gives(SORTS, "use 0; from 1 to 1; let u = f + 1; let v = -u; where " + cond + "; give u, v;", so ? "4 -4" : "");
     }
 
     // ---- group, span, sort
@@ -1126,6 +1168,26 @@ public final class BoundsRunTest {
                 gives(wholes(at(moments), "a", values), "use 0; group all; give quant " + p + " a;", "" + want);
             }
         }
+        long[] mixed = {-7, 1, -5, 3, -6, 2, 4, -1, 0, -2, 7, -3, 6, -4, 5, 8};
+        for (int size = 1; size <= 16; size++) {
+            long[] values = java.util.Arrays.copyOf(mixed, size);
+            long[] sorted = values.clone();
+            java.util.Arrays.sort(sorted);
+            double[] halves = new double[size];
+            for (int i = 0; i < size; i++) {
+                halves[i] = values[i] / 2.0;
+            }
+            Bounds.Maker both = reals(wholes(at(new long[size]), "a", values), "r", halves);
+            double median = ((double) sorted[(size - 1) / 2] + (double) sorted[size / 2]) / 2.0;
+            gives(both, "use 0; group all; give least a, great a, median a, least r, great r, median r;",
+                sorted[0] + " " + sorted[size - 1] + " " + median + " " + sorted[0] / 2.0 + " " + sorted[size - 1] / 2.0 + " " + median / 2.0);
+            for (int p = 0; p <= 100; p += 10) {
+                long at = sorted[Math.max(1, (p * size + 99) / 100) - 1];
+                gives(both, "use 0; group all; give quant " + p + " a, quant " + p + " r;", at + " " + at / 2.0);
+            }
+        }
+        gives(wholes(at(1, 2, 3), "a", -3, -5, -4), "use 0; group all; give least a, great a, median a, quant 0 a, quant 100 a;", "-5 -3 -4.0 -5 -3");
+
         says("median: the middle one, or both middle ones added, / 2.0, as REALS");
         gives(wholes(at(1), "a", 7), "use 0; group all; give median a;", "7.0");
         gives(wholes(at(1, 2), "a", 7, 4), "use 0; group all; give median a;", "5.5");

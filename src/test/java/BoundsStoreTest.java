@@ -1215,6 +1215,41 @@ public final class BoundsStoreTest {
             tells(added, x -> x.array(column, 3, 0), NONE);
             tells(added, x -> x.array(column, 2, 1), 2);
         }
+        says("glue leaves the other SERIES as it is: ROWS, ARRAYS, CORRECTIONS");
+        Bounds.Maker alike = x -> {
+            for (int series = 0; series < 2; series++) {
+                x.plain(series, n(series == 0 ? "a" : "b"), 4);
+                for (int i = 0; i < 3; i++) {
+                    x.segment(series);
+                    Bounds.rows(x, series, i, 10 * i + series, 10 * i + 5 + series);
+                    Bounds.wholes(x, series, i, 100 * i, 100 * i + 1, 100 * i + 2);
+                    x.correct(series, i, 1, 100 * i + 50, false, 5);
+                }
+            }
+        };
+        for (int series = 0; series < 2; series++) {
+            int s = series;
+            for (int first = 0; first < 2; first++) {
+                int f = first;
+                Bounds.Maker one = both(alike, x -> Bounds.due("glue()", x.glue(s, f), 4));
+                for (int segment = 0; segment < 3; segment++) {
+                    int g = segment;
+                    tells(one, x -> x.array(1 - s, g, 1), 3);
+                    tells(one, x -> x.array(1 - s, g, 0), 4);
+                    tells(one, x -> x.moment(1 - s, g, 1), 10 * g + 5 + 1 - s);
+                    tells(one, x -> x.read(1 - s, g, 0, 5), 100 * g);
+                    tells(one, x -> x.read(1 - s, g, 1, 4), 100 * g + 1);
+                    tells(one, x -> x.read(1 - s, g, 1, 5), 100 * g + 50);
+                }
+                long[] places = first == 0 ? new long[] {0, 1, 100, 101} : new long[] {100, 101, 200, 201};
+                for (int row = 0; row < 4; row++) {
+                    int r = row;
+                    tells(one, x -> x.read(s, f, r, 4), places[r]);
+                    tells(one, x -> x.read(s, f, r, 5), r % 2 == 0 ? places[r] : places[r] + 49);
+                }
+                tells(one, x -> x.read(s, 1 - f, 1, 5), first == 0 ? 250 : 50);
+            }
+        }
         says("glue of the last two of 6 leaves the other SERIES as it is");
         Bounds.Maker six = x -> {
             for (int i = 0; i < 6; i++) {
