@@ -73,7 +73,7 @@ public final class RealTest {
     }
 
     private static double any(Random random) {
-        switch (random.nextInt(6)) {
+        switch (random.nextInt(7)) {
             case 0:
                 return Double.longBitsToDouble(random.nextLong());
             case 1:
@@ -84,9 +84,21 @@ public final class RealTest {
                 return Double.longBitsToDouble(random.nextLong() & 0x800fffffffffffffL | (long) random.nextInt(4) << 52);
             case 4:
                 return Double.longBitsToDouble(random.nextLong() & 0x800fffffffffffffL | (long) (1000 + random.nextInt(80)) << 52);
+            case 5:
+                return sparse(random);
             default:
                 return (random.nextLong() >> random.nextInt(64)) / 1000.0;
         }
+    }
+
+    /** All but a few bits alike: so what is cut off is often just a half, or a single bit off it. */
+    private static double sparse(Random random) {
+        long figure = random.nextBoolean() ? 0 : -1;
+        for (int i = random.nextInt(4); i >= 0; i--) {
+            figure ^= 1L << random.nextInt(52);
+        }
+        long field = random.nextInt(8) == 0 ? random.nextInt(2047) : 1023 + random.nextInt(120) - 60;
+        return Double.longBitsToDouble(figure & 0x800fffffffffffffL | field << 52);
     }
 
     public static void main(String[] args) {
