@@ -327,6 +327,18 @@ public final class BoundsRunTest {
             x.correct(0, 0, 0, 4, false, Bounds.MOST - 1);
         });
         gives(known, "use 0; known 0; give a, s;", "2 2.0");
+        Bounds.Maker other = and(known, x -> {
+            x.segment(1);
+            x.late(1, 0, 1);
+            x.plain(1, n("b"), 5);
+            x.spread(2, 1, false);
+            x.correct(2, 0, 0, 3, false, 7);
+        });
+        gives(other, "use 0; known 6; join 1 on a b; give a, b;", "");
+        gives(other, "use 0; known 7; join 1 on a b; give a, b;", "3 3");
+        gives(other, "use 0; known 6; join 1 near 1; give a, b;", "3 1");
+        gives(other, "use 0; known 7; join 1 near 1; give a, b;", "3 3");
+        gives(other, "use 1; known 4; join 0 near 1; let u = a + b; give u;", "3");
         gives(known, "use 0; known 4; give a, s;", "2 2.0");
         gives(known, "use 0; known 5; give a, s;", "3 3.0");
         gives(known, "use 0; known 999999999998; give a, s;", "3 3.0");
