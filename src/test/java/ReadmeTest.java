@@ -118,7 +118,7 @@ public final class ReadmeTest {
     /** Each call of the document's face that a user needs first is shown, and each test of the project is named. */
     private static void mentions(List<String> lines) throws IOException {
         String text = String.join("\n", lines);
-        for (String call : "segment late plain constant scaled derived put store correct look read feed end query fault run ended cell real cost way force mark undo count thin clear".split(" ")) {
+        for (String call : "segment late plain constant scaled derived put store correct look read sort spread feed end query fault run ended cell real cost way force mark undo count thin clear".split(" ")) {
             if (!text.contains("house." + call + "(")) {
                 complain("it does not show " + call + "()");
             }
